@@ -630,11 +630,10 @@ public final class SaidMine {
         int last = 1;
         int debts;
 
+        /** The law and the last place need not be cleared: no text is without them. */
         void clear() {
             houses = 0;
             things = 0;
-            law = 0;
-            last = 1;
             debts = 0;
         }
 

@@ -201,6 +201,12 @@ public final class PromiseTest {
         due("anew: the seed stays", x.seed(0), 77);
         due("anew: lessons stay", x.laws(), 7);
         due("anew: no stone", x.thing(0, 6), 0);
+        x.stone(0);
+        due("coast with no stones", x.coast() + x.thing(0, 6) + x.count(6), 1);
+        Check.write(x, "W35H00T53");
+        due("a fault told", x.fault(), 9);
+        due("a fault told leaves the coast", 100 * x.count(1) + 10 * x.count(2) + x.count(3), 10);
+        due("and its things", x.thing(0, 0), 1);
         Check.write(x, "W01");
         due("coast of nothing", x.coast(), 0);
         due("no things", x.thing(0, 0), UNKNOWN);
@@ -546,6 +552,9 @@ public final class PromiseTest {
         due("too many", x.most(), 0);
         x = Check.coast("W21H02H01T012-T0191T0131T0140");
         due("own ones", x.most(), 13);
+        x = Check.coast("W05H04H54H54H54T018-T017-T016-T015-T519-T518-");
+        due("all breaths", x.most(), 43);
+        due("all breaths to keep", x.toKeep(63), 6);
     }
 
     private static void fraction(String what, SaidMine x, int house, int above, int below) {
@@ -615,6 +624,8 @@ public final class PromiseTest {
         x = Check.coast("W11H01H01H01T015-");
         x.say(2, 0);
         due("just one: none more", x.rests(0, 1, 0), 1);
+        x = Check.coast("W01H01H01T012-");
+        due("worth two", x.rests(0, 1, 0), 6);
         x = Check.coast("W21H01H01T0151D0");
         due("its own one", x.rests(0, 1, 0), 4);
         x = Check.coast("W01H01H01T015-D0");
@@ -823,30 +834,41 @@ public final class PromiseTest {
             due("odd m", x.winds(odd), OUTSIDE);
         }
         due("the seed is as it was", x.seed(5), 5);
-        long seed = 5;
-        int[] place = new int[6];
-        int[] pace = {1, 2, 3, 1, 2, 3};
-        int[] worth = {5, 7, 6, 1, 2, 3};
-        boolean[] stone = new boolean[6];
-        int quay = 0;
-        for (int i = 0; i < 3; i++) {
-            seed = seed * 6364136223846793005L + 1442695040888963407L;
-            int t = (int) (seed >>> 33 & 7);
-            if (t < 6) {
-                stone[t] = !stone[t];
-            }
-            quay = 0;
-            for (int k = 0; k < 6; k++) {
-                place[k] = stone[k] ? place[k] : Math.min(5, place[k] + pace[k]);
-                quay += place[k] == 5 ? worth[k] : 0;
+        for (int m = 1; m <= 20; m++) {
+            for (int stones = 0; stones < 64; stones += 21) {
+                winds(m, 1000 * m + stones, stones);
             }
         }
-        due("winds", x.winds(3), quay);
-        due("the seed goes on", x.seed(9), seed);
+        x.winds(20);
         due("no blow", x.count(5) + x.count(10) + x.count(6) + x.count(7), 0);
         due("nobody moved", x.thing(2, 0), 0);
-        x = Check.coast("W01T015-");
-        due("twenty", x.winds(20) >= 0 ? 1 : 0, 1);
+    }
+
+    private static void winds(int m, long from, int stones) {
+        SaidMine x = Check.coast("W05T015-T027-T036-T011-T022-T033-");
+        int[] pace = {1, 2, 3, 1, 2, 3};
+        int[] worth = {5, 7, 6, 1, 2, 3};
+        int[] place = new int[6];
+        for (int t = 0; t < 6; t++) {
+            due("stone", (stones >> t & 1) == 1 ? x.stone(t) : 1, 1);
+        }
+        long seed = from;
+        int lying = stones;
+        for (int i = 0; i < m; i++) {
+            seed = seed * 6364136223846793005L + 1442695040888963407L;
+            lying ^= 63 & 1 << (int) (seed >>> 33 & 7);
+            for (int t = 0; t < 6; t++) {
+                place[t] = (lying >> t & 1) == 1 ? place[t] : Math.min(5, place[t] + pace[t]);
+            }
+        }
+        int quay = 0;
+        for (int t = 0; t < 6; t++) {
+            quay += place[t] == 5 ? worth[t] : 0;
+        }
+        x.seed(from);
+        due("winds " + m, x.winds(m), quay);
+        due("the seed goes on", x.seed(9), seed);
+        due("stones are as they were", x.count(6), stones);
     }
 
     private static void slots() {
@@ -887,6 +909,7 @@ public final class PromiseTest {
 
     private static void count() {
         SaidMine x = Check.coast("W34H12H02T0150T315-T415-T015-I30D1");
+        due("at last ahead of a blow", x.count(7), 4);
         x.say(0, 0);
         x.say(1, 0);
         x.stone(1);
