@@ -42,6 +42,7 @@ final class ActBounds {
         judgeThereAlready();
         judgeSaid();
         judgeNone();
+        judgeNoneOfOneToFive();
     }
 
     // ---- what is said, and held
@@ -537,10 +538,20 @@ final class ActBounds {
 
     private void judgeNone() {
         due.of("Promise 14", "JUDGED; NONE.");
-        due.of("Term 2", "comes to LAST that was not there; NONE: none.");
         SaidMine x = Check.coast("W02H04" + "T013-T013-T013-T013-");
         due.due("four said and a blow", x.judge(5, 1020390), NONE);
         due.due("three said and two blows", x.judge(5, 1029090), 4);
         due.due("nothing is changed", x.count(5) + x.count(8) + x.count(10) + x.thing(3, 0), 0);
+    }
+
+    private void judgeNoneOfOneToFive() {
+        due.of("Term 2", "comes to LAST that was not there; NONE: none.");
+        SaidMine x = Check.coast("W05H04T013-T013-T013-T013-");
+        long[] rows = {0, 1, 102, 10203, 1020390};
+        for (int n = 1; n <= 5; n++) {
+            due.due("judge(" + n + ", " + rows[n - 1] + ")", x.judge(n, rows[n - 1]), NONE);
+        }
+        due.due("four blows that bring none there", x.judge(4, 90909090), NONE);
+        due.due("nothing to bring there", new SaidMine().judge(5, 9090909090L), NONE);
     }
 }

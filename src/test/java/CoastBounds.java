@@ -12,6 +12,7 @@ final class CoastBounds {
 
     void all() {
         numbers();
+        none();
         numberedAsTold();
         uses();
         atFirst();
@@ -35,6 +36,9 @@ final class CoastBounds {
         due.due("OUTSIDE", SaidMine.OUTSIDE, -2);
         due.due("STATE", SaidMine.STATE, -3);
         due.due("FULL", SaidMine.FULL, -4);
+    }
+
+    private void none() {
         due.of("The document", "NONE is -9.");
         due.due("NONE", SaidMine.NONE, -9);
         due.due("NONE of a text without a fault", Check.coast("W01").fault(), -9);

@@ -31,6 +31,7 @@ final class KeepBounds {
         restsRefused();
         restsWhetherItCan();
         restsSaidAlready();
+        restsItsWorth();
         restsNoMore();
         restsOfEachLaw();
         behindRefused();
@@ -375,8 +376,19 @@ final class KeepBounds {
         due.due("its own house is left", x.rests(0, 1, 0), 2);
     }
 
-    private void restsNoMore() {
+    private void restsItsWorth() {
         due.of("Term 2", "it has its WORTH, if it STAYS then, less 1 if it says it now: of the four ways");
+        for (int worth = 0; worth <= 9; worth++) {
+            String thing = "T01" + worth;
+            int want = worth == 0 ? 1 : worth == 1 ? 7 : 6;
+            due.due("one is enough, worth " + worth, Check.coast("W01H01H01" + thing + "-").rests(0, 1, 0), want);
+            due.due("whoever's it is", Check.coast("W01H01H01" + thing + "0").rests(0, 1, 0), want);
+            due.due("two must, worth " + worth, Check.coast("W31H01H01" + thing + "-").rests(0, 1, 0), worth == 0 ? 1 : 9);
+            due.due("it can not stay", Check.coast("W21H01H01" + thing + "-").rests(0, 1, 0), 1);
+        }
+    }
+
+    private void restsNoMore() {
         due.of("Term 2", "those in which neither has more by the other choice alone");
         due.due("worth 0: saying it costs", Check.coast("W01H01H01T010-").rests(0, 1, 0), 1);
         due.due("worth 1: as much by either choice", Check.coast("W01H01H01T011-").rests(0, 1, 0), 7);

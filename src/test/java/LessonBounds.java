@@ -21,6 +21,7 @@ final class LessonBounds {
         laws();
         lawsOfNoLesson();
         lawsNoneLeft();
+        next();
         nextLeast();
         nextNone();
         nextOfOne();
@@ -149,9 +150,22 @@ final class LessonBounds {
         due.due("held by none", x.laws(), 0);
     }
 
+    private void next() {
+        due.of("Promise 25", "NEXT; NONE.");
+        SaidMine x = new SaidMine();
+        due.due("of no lesson", x.next(), 10);
+        x.learn(1, false, true);
+        due.due("of one", x.next(), 20);
+        x.learn(2, false, true);
+        due.due("when it is answered", x.next(), 0);
+        x.learn(2, false, false);
+        due.due("none left", x.next(), NONE);
+        x.learn(0, false, false);
+        due.due("none left still", x.next(), NONE);
+    }
+
     /** Which case parts these laws best: written out, as four laws leave few sets. */
     private void nextLeast() {
-        due.of("Promise 25", "NEXT; NONE.");
         due.of("Term 3", "that by which LAWS that are left are parted best (the greater part is least); of like ones the least");
         int[] byLaws = {NONE, 0, 0, 20, 0, 10, 10, 10, 0, 10, 10, 10, 11, 10, 10, 10};
         for (int first : CASES) {

@@ -11,6 +11,7 @@ final class Sentences {
     private final String doc;
     private final TreeSet<String> named = new TreeSet<>();
     private int sentences;
+    private int asked;
     private String now = "";
 
     Sentences(Check check) throws IOException {
@@ -24,12 +25,18 @@ final class Sentences {
 
     /** What comes next holds to these words; they stand in that part of the document. */
     void of(String part, String words) {
+        endOfSentence();
         named.add(part);
         sentences++;
         now = part + ", \"" + words + "\": ";
         if (doc != null) {
             check.isTrue(now + "stands in the document", told(part).contains(words));
         }
+    }
+
+    private void endOfSentence() {
+        check.isTrue(now + "something is asked for it", sentences == 0 || asked > 0);
+        asked = 0;
     }
 
     private String told(String part) {
@@ -45,15 +52,18 @@ final class Sentences {
     }
 
     void due(String call, long got, long want) {
+        asked++;
         check.due(now + call, got, want);
     }
 
     void isTrue(String what, boolean holds) {
+        asked++;
         check.isTrue(now + what, holds);
     }
 
     /** No promise is without a sentence. */
     void end(int promises) {
+        endOfSentence();
         now = "";
         for (int i = 1; i <= promises; i++) {
             check.isTrue("promise " + i + " has a test of its own", named.contains("Promise " + i));
